@@ -52,7 +52,7 @@ public final class NorthCurve {
     private static final int NEED = 8;
     private static final int STRENGTH = 9;
     /** What holds where a text doesn't say it, each at its word's number. */
-    private static final int[] UNSAID = {0, 9999, 3, 10, 0, 0, 0, 100, 1, NONE};
+    private static final int[] UNSAID = {0, 9999, 3, 10, 0, 0, 0, 100, 1, -1};
     private static final String CUBE_NAMES = "d i s machine cube hearth zone";
     private static final String HEARTH_NAMES = "hearth zone cubes from to length wood coin writ";
 
@@ -432,6 +432,14 @@ public final class NorthCurve {
     }
 
     private static void put(int[] row, int place, int v) {
+        if (row != null && place >= 0 && place < row.length) row[place] = v;
+    }
+
+    private static long at(long[] row, int place) {
+        return row != null && place >= 0 && place < row.length ? row[place] : 0;
+    }
+
+    private static void put(long[] row, int place, long v) {
         if (row != null && place >= 0 && place < row.length) row[place] = v;
     }
 
@@ -1054,16 +1062,16 @@ public final class NorthCurve {
         }
 
         private void findMiddle() {
-            middleD = down(sumLeft(d), left);
-            middleI = down(sumLeft(i), left);
-        }
-
-        private int sumLeft(int[] row) {
-            int sum = 0;
+            int sumD = 0;
+            int sumI = 0;
             for (int c = 0; c < cubes; c++) {
-                if (at(fate, c) == LEFT) sum += at(row, c);
+                if (at(fate, c) == LEFT) {
+                    sumD += at(d, c);
+                    sumI += at(i, c);
+                }
             }
-            return sum;
+            middleD = down(sumD, left);
+            middleI = down(sumI, left);
         }
 
         private int fromMiddle(int c) {
@@ -1075,12 +1083,16 @@ public final class NorthCurve {
             int zone = at(archive.zone, hearth);
             put(mean, D, middleD + at(archive.turnD, zone));
             put(mean, I, middleI + at(archive.turnI, zone));
-            put(mean, S, down(sumLeft(s), left));
-            put(mean, HOW_MANY, left);
+            int sumS = 0;
             int away = 0;
             for (int c = 0; c < cubes; c++) {
-                if (at(fate, c) == LEFT) away += fromMiddle(c);
+                if (at(fate, c) == LEFT) {
+                    sumS += at(s, c);
+                    away += fromMiddle(c);
+                }
             }
+            put(mean, S, down(sumS, left));
+            put(mean, HOW_MANY, left);
             int cone = down(away, left) + law.setting(BASE);
             for (int k = 0; k < law.clauses; k++) {
                 if (law.word(k) == DOUBT && law.holds(k, names)) cone += law.number(k);
@@ -1382,7 +1394,7 @@ public final class NorthCurve {
         }
 
         boolean hasYears(int hearth) {
-            return least(hearth) <= greatest(hearth);
+            return at(low, hearth) <= at(high, hearth);
         }
 
         int least(int hearth) {
@@ -1443,6 +1455,10 @@ public final class NorthCurve {
         /** At each KNOT of the own ones: how many have a WEIGHT; HALF, NONE if it isn't TOLD. */
         private final int[] many = new int[KNOTS];
         private final int[] half = new int[KNOTS];
+        /** There too: all WEIGHTS, and the sums of WEIGHT times D and I. */
+        private final long[] all = new long[KNOTS];
+        private final long[] sumD = new long[KNOTS];
+        private final long[] sumI = new long[KNOTS];
         int gain;
         int bits;
 
@@ -1457,11 +1473,27 @@ public final class NorthCurve {
             }
             own = size;
             for (int knot = 0; knot < KNOTS; knot++) {
-                int some = 0;
-                for (int m = 0; m < own; m++) if (weightAt(m, knot) > 0) some++;
-                put(many, knot, some);
                 put(half, knot, of.curve.isTold(knot) ? of.curve.cellAt(HALF, knot) : NONE);
+                sumOwn(knot);
             }
+        }
+
+        private void sumOwn(int knot) {
+            int some = 0;
+            long weights = 0;
+            long ofD = 0;
+            long ofI = 0;
+            for (int m = 0; m < own; m++) {
+                long itsWeight = weightAt(m, knot);
+                if (itsWeight > 0) some++;
+                weights += itsWeight;
+                ofD += itsWeight * at(d, m);
+                ofI += itsWeight * at(i, m);
+            }
+            put(many, knot, some);
+            put(all, knot, weights);
+            put(sumD, knot, ofD);
+            put(sumI, knot, ofI);
         }
 
         boolean isFull() {
@@ -1513,42 +1545,28 @@ public final class NorthCurve {
         }
 
         private int gainAt(int knot, int p, int q, int r) {
-            int more = 0;
-            if (weightAt(p, knot) > 0) more++;
-            if (weightAt(q, knot) > 0) more++;
-            if (weightAt(r, knot) > 0) more++;
-            if (more == 0) return 0;
-            if (at(half, knot) == NONE) return at(many, knot) + more >= need ? 100 : 0;
-            int middleD = shared(d, knot, p, q, r);
-            int middleI = shared(i, knot, p, q, r);
-            return at(half, knot) - halfWith(knot, p, q, r, middleD, middleI);
-        }
-
-        private int shared(int[] row, int knot, int p, int q, int r) {
-            long all = (long) weightAt(p, knot) + weightAt(q, knot) + weightAt(r, knot);
-            long sum = (long) weightAt(p, knot) * at(row, p) + (long) weightAt(q, knot) * at(row, q)
-                    + (long) weightAt(r, knot) * at(row, r);
-            for (int m = 0; m < own; m++) {
-                all += weightAt(m, knot);
-                sum += (long) weightAt(m, knot) * at(row, m);
+            long ofP = weightAt(p, knot);
+            long ofQ = weightAt(q, knot);
+            long ofR = weightAt(r, knot);
+            if (ofP + ofQ + ofR == 0) return 0;
+            if (at(half, knot) == NONE) {
+                int more = (ofP > 0 ? 1 : 0) + (ofQ > 0 ? 1 : 0) + (ofR > 0 ? 1 : 0);
+                return at(many, knot) + more >= need ? 100 : 0;
             }
-            return down(sum, all);
-        }
-
-        private int halfWith(int knot, int p, int q, int r, int toD, int toI) {
-            long all = (long) weightAt(p, knot) + weightAt(q, knot) + weightAt(r, knot);
-            long sum = reach(p, knot, toD, toI) + reach(q, knot, toD, toI) + reach(r, knot, toD, toI);
-            for (int m = 0; m < own; m++) {
-                all += weightAt(m, knot);
-                sum += reach(m, knot, toD, toI);
-            }
-            return down(sum, all);
+            long together = at(all, knot) + ofP + ofQ + ofR;
+            int toD = down(at(sumD, knot) + ofP * at(d, p) + ofQ * at(d, q) + ofR * at(d, r), together);
+            int toI = down(at(sumI, knot) + ofP * at(i, p) + ofQ * at(i, q) + ofR * at(i, r), together);
+            long reaches = reach(p, knot, toD, toI) + reach(q, knot, toD, toI) + reach(r, knot, toD, toI);
+            for (int m = 0; m < own; m++) reaches += reach(m, knot, toD, toI);
+            return at(half, knot) - down(reaches, together);
         }
 
         /** WEIGHT times (CONE and how far D or I is from these, together). */
         private long reach(int m, int knot, int toD, int toI) {
+            int itsWeight = at(weight, m * KNOTS + knot);
+            if (itsWeight == 0) return 0;
             int away = Math.max(far(at(d, m), toD), far(at(i, m), toI));
-            return (long) at(weight, m * KNOTS + knot) * (at(cone, m) + away);
+            return (long) itsWeight * (at(cone, m) + away);
         }
 
         private int weightAt(int m, int knot) {
