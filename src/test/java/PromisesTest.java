@@ -1031,6 +1031,14 @@ public final class PromisesTest {
         due("edition -1", NONE, x.date(2, -1, true));
         hearthAt(x, 50, 700, 150);
         due("I is too far", 0, x.date(4, 0, false));
+        NorthCurve y = flat(0);
+        due("D and I at CONE and HALF together", 1, y.date(hearthAt(y, 20, -20, 0), 0, false));
+        due("of a WEIGHT of 1 each", 1000, piece(y, 1, 0, false, 0, 2));
+        due("ON THE SITE", 1500, piece(y, 1, 0, true, 0, 1));
+        due("D further", 0, y.date(hearthAt(y, 21, 0, 0), 0, false));
+        due("D further below", 0, y.date(hearthAt(y, -21, 0, 0), 0, false));
+        due("I further", 0, y.date(hearthAt(y, 0, 21, 0), 0, false));
+        due("I further below", 0, y.date(hearthAt(y, 0, -21, 0), 0, false));
         // two ways through D 50: up from 100 to 200 and down again to 300
         datedAt(x, 0, 600, 100, 300, 300);
         x.edition();
@@ -1168,6 +1176,17 @@ public final class PromisesTest {
         due("2", 1, x.quarrels(0));
         x.order(1, 3);
         due("2 and 3", 2, x.quarrels(0));
+        NorthCurve z = flat(23);
+        z.witness(23, 1, 1500, 1500);
+        z.order(23, 22);
+        z.order(21, 23);
+        due("22 alone", 1, z.quarrels(0));
+        z.witness(22, 1, 1500, 1500);
+        z.order(22, 23);
+        due("a ring isn't told", 1, z.quarrels(0));
+        z.cost(23, 1);
+        text(z, "base 0;");
+        due("the last HEARTH may be chosen", 1 << 23, z.choose(0, 9, 1));
         NorthCurve y = slope();
         hearthAt(y, 50, 600, 150);
         y.edition();
@@ -1203,6 +1222,12 @@ public final class PromisesTest {
         due("not right by one YEAR", 0, x.test(3, 1));
         text(x, "drop if hearth=2;");
         due("no MEAN now: not tried", 0, x.test(0, 0));
+        NorthCurve y = flat(0);
+        datedAt(y, 20, 20, 0, 1500, 1500);
+        text(y, "window 9999;skip if cubes=2;");
+        y.edition();
+        due("both", 2, y.test(1, 0));
+        due("right in 1500 alone, with a WEIGHT of 1", 2, y.test(1, 1));
     }
 
     private static void choose() {
@@ -1259,6 +1284,32 @@ public final class PromisesTest {
         text(z, "base 5;");
         // at 0: 6000 by 20 is 300; 6000 by (10 + 5 + 5) is 300: HALF (10 + 5) by 2, was 10
         due("and HALF is 7 at 0", 103, z.choose(0, 5, 0));
+        text(z, "base 300;");
+        // at 0: 6000 by (10 + 300 + 5) is 19: HALF (300 * 10 + 19 * 300) by 319 is 27
+        due("SPAN from 0 on", 83, z.choose(0, 5, 0));
+        text(y, "base 9000;");
+        // at 475 and 525: 15000 by 9020 is 1; at 500: 20000 by 9020 is 2, HALF (10000 + 18000) by 1002 is 27
+        due("a WEIGHT of 1 makes a KNOT TOLD", 183, y.choose(0, 5, 0));
+        y.cost(1, 1);
+        due("COST 1", 2, y.choose(0, 1, 1));
+        due("COST 1", 0, y.choose(0, 0, 1));
+        heaviest();
+    }
+
+    /** Of like PIECES the first counts: a KNOT at 100 and one at 1100, the hearth is as far from both. */
+    private static void heaviest() {
+        NorthCurve x = new NorthCurve();
+        datedAt(x, 0, 0, 0, 100, 100);
+        datedAt(x, 0, 8, 0, 1100, 1100);
+        text(x, "window 20;");
+        x.edition();
+        hearthAt(x, 0, 4, 0);
+        x.cost(2, 1);
+        // its SPAN is 80 to 120, so 75 and 125 are TOLD then; at 100 weights 1000 and 666: I 1, HALF 19658 by 1666 is 11
+        due("75 and 125", 199, x.choose(0, 1, 0));
+        x.tilt(2, 0, 1);
+        // SPAN 1080 to 1120: 1075 and 1125; at 1100 I is (8000 + 3330) by 1666, so 6: (12000 + 666 * 11) by 1666 is 11
+        due("I 5: by the first EDITION the second is heavier", 199, x.choose(0, 1, 0));
     }
 
     private static void chooseAmongTen() {
