@@ -54,6 +54,7 @@ public final class PromisesTest {
         test();
         choose();
         chooseAmongTen();
+        chooseApart();
         report();
         reportOf();
         of();
@@ -1187,6 +1188,10 @@ public final class PromisesTest {
         z.cost(23, 1);
         text(z, "base 0;");
         due("the last HEARTH may be chosen", 1 << 23, z.choose(0, 9, 1));
+        NorthCurve v = flat(23);
+        v.witness(22, 1, 1500, 1500);
+        v.order(22, 23);
+        due("23 alone", 1, v.quarrels(0));
         NorthCurve y = slope();
         hearthAt(y, 50, 600, 150);
         y.edition();
@@ -1342,11 +1347,34 @@ public final class PromisesTest {
         due("three make 475 and 525", 200, y.choose(0, 30, 0));
         due("the first three", 56, y.choose(0, 30, 1));
         due("two make nothing", 0, y.choose(0, 29, 0));
+        text(y, "base 9000;");
+        // WEIGHTS of 1 at 475 and 525; at 500 HALF (30000 + 6 * 9000) by 3006 is 27
+        due("three of a WEIGHT of 1", 183, y.choose(0, 30, 0));
+        text(y, "");
         for (int h = 3; h <= 10; h++) y.cost(h, 999);
         due("the first ten: 11 and 12 are the only cheap ones", 0, y.choose(0, 30, 0));
         due("one dear and two cheap", (1 << 3) + (1 << 11) + (1 << 12), y.choose(0, 1019, 1));
         y.cost(3, 0);
         due("without COST no choice: 13 comes in", (1 << 11) + (1 << 12) + (1 << 13), y.choose(0, 30, 1));
+    }
+
+    /** One that has no WEIGHT at a KNOT isn't counted there. */
+    private static void chooseApart() {
+        promise = "30 choose apart";
+        NorthCurve x = new NorthCurve();
+        for (int k = 0; k < 6; k++) datedAt(x, k / 2 * 300, 0, 0, 100 + k / 2 * 500, 100 + k / 2 * 500);
+        text(x, "window 20;need 2;");
+        x.edition();
+        for (int k = 0; k < 3; k++) x.cost(hearthAt(x, k * 300, 0, 0), 1);
+        due("three at three places", 0, x.choose(0, 9, 0));
+        due("three at three places", 0, x.choose(0, 9, 1));
+        x.cost(hearthAt(x, 600, 0, 0), 1);
+        due("two at one place", 200, x.choose(0, 9, 0));
+        due("two at one place", (1 << 8) + (1 << 9), x.choose(0, 9, 1));
+        x.cost(hearthAt(x, 0, 0, 0), 1);
+        due("of two places the least as bits", (1 << 8) + (1 << 9), x.choose(0, 9, 1));
+        x.cost(8, 0);
+        due("the first place", (1 << 6) + (1 << 10), x.choose(0, 9, 1));
     }
 
     private static void report() {
