@@ -3,17 +3,10 @@ import java.lang.reflect.Field;
 import java.lang.reflect.Method;
 import java.lang.reflect.Modifier;
 import java.util.Arrays;
-import java.util.NoSuchElementException;
 import java.util.TreeSet;
 
 /** Of each promise of the document: ordinary inputs, the edges that it names, and wrong inputs, worked out by hand. */
-public final class PromisesTest {
-    private static final int NONE = -1;
-    private static final int LOST = -2000000;
-    private static int wrong;
-    private static int asked;
-    private static String promise = "";
-
+public final class PromisesTest extends Asked {
     public static void main(String[] args) {
         face();
         newObject();
@@ -59,81 +52,7 @@ public final class PromisesTest {
         reportOf();
         of();
         count();
-        System.out.println(asked + " answers asked, " + wrong + " wrong");
-        if (wrong != 0) System.exit(1);
-    }
-
-    // ---- helps --------------------------------------------------------------------------------
-
-    private static void due(String call, long want, long got) {
-        asked++;
-        if (got != want) {
-            wrong++;
-            System.out.println(promise + ": " + call + " answered " + got + ", due is " + want);
-        }
-    }
-
-    private static void due(String call, boolean want, boolean got) {
-        due(call, want ? 1 : 0, got ? 1 : 0);
-    }
-
-    /** Feeds a text behind an emptied TAPE, and makes RULES of it. */
-    private static int text(NorthCurve x, String text) {
-        x.end(0);
-        feed(x, text);
-        return x.rules();
-    }
-
-    private static void feed(NorthCurve x, String text) {
-        for (int at = 0; at < text.length(); at += 20) {
-            int[] n = new int[5];
-            for (int b = 0; b < 20; b++) n[b / 4] |= (at + b < text.length() ? text.charAt(at + b) : 255) << 24 - b % 4 * 8;
-            x.feed(n[0], n[1], n[2], n[3], n[4]);
-        }
-        x.end(x.count(9) - (20 - text.length() % 20) % 20);
-    }
-
-    private static void fault(String text, int answer, int place) {
-        NorthCurve x = new NorthCurve();
-        String told = text.replace("\n", "\\n");
-        due("rules() of \"" + told + "\"", answer, text(x, text));
-        due("place() of \"" + told + "\"", place, x.place());
-        due("count(6)", answer < 0 ? 0 : 1, x.count(6));
-        due("count(9)", 0, x.count(9));
-    }
-
-    private static long piece(NorthCurve x, int hearth, int edition, boolean site, int i, int what) {
-        try {
-            return x.piece(hearth, edition, site, i, what);
-        } catch (NoSuchElementException none) {
-            return Long.MIN_VALUE;
-        }
-    }
-
-    private static void noPiece(NorthCurve x, int hearth, int edition, boolean site, int i, int what) {
-        due("piece(" + hearth + ", " + edition + ", " + site + ", " + i + ", " + what + ") throws", Long.MIN_VALUE,
-                piece(x, hearth, edition, site, i, what));
-    }
-
-    /** A hearth with one cube, so with its D, I, S as MEAN and CONE 10. */
-    private static int hearthAt(NorthCurve x, int d, int i, int s) {
-        int h = x.hearth(0);
-        x.cube(h, 0, d, i, s);
-        return h;
-    }
-
-    private static int datedAt(NorthCurve x, int d, int i, int s, int from, int to) {
-        int h = hearthAt(x, d, i, s);
-        x.witness(h, 0, from, to);
-        return h;
-    }
-
-    /** Two dated ones, D 0 in the YEAR 100 and D 100 in the YEAR 200; I 600 both; S 100 and 200. */
-    private static NorthCurve slope() {
-        NorthCurve x = new NorthCurve();
-        datedAt(x, 0, 600, 100, 100, 100);
-        datedAt(x, 100, 600, 200, 200, 200);
-        return x;
+        tellAndEnd();
     }
 
     // ---- the face, and promises 1 to 10 -------------------------------------------------------
@@ -625,15 +544,6 @@ public final class PromisesTest {
         due("the other one", 0, y.dropped(0, 0, 0));
     }
 
-    /** Whether a COND holds, asked by a cube with D 3, I -4, S 5 of machine 1. */
-    private static void holds(String condition, boolean want) {
-        NorthCurve x = new NorthCurve();
-        x.hearth(2);
-        x.cube(0, 1, 3, -4, 5);
-        due("rules() of " + condition, 1, text(x, "drop if " + condition + ";"));
-        due(condition, want, x.dropped(0, 0, 0) == 1);
-    }
-
     private static void sums() {
         promise = "13 COND";
         holds("d=3", true);
@@ -1103,16 +1013,6 @@ public final class PromisesTest {
         due("parts", 892, piece(x, 3, 0, false, 1, 2));
         due("a hearth of it has none of its own", 1, x.date(0, 0, false));
         due("its date by the others", 1100, piece(x, 0, 0, false, 0, 0));
-    }
-
-    /** One flat curve over all YEARS, and hearths that may be of any YEAR. */
-    private static NorthCurve flat(int hearths) {
-        NorthCurve x = new NorthCurve();
-        datedAt(x, 0, 0, 0, 700, 700);
-        text(x, "window 9999;");
-        x.edition();
-        for (int h = 1; h <= hearths; h++) hearthAt(x, 0, 0, 0);
-        return x;
     }
 
     private static void onSite() {
