@@ -17,6 +17,8 @@ public final class EdgesTest extends Asked {
         middleDown();
         tooFar();
         keepAsMany();
+        machineOfEach();
+        severalDrops();
         meanDown();
         coneDown();
         spans();
@@ -41,6 +43,7 @@ public final class EdgesTest extends Asked {
         coinsOnTheSite();
         ordersOnTheSite();
         lonesOnTheSite();
+        siteAnew();
         rings();
         tests();
         chooseSpan();
@@ -49,6 +52,9 @@ public final class EdgesTest extends Asked {
         chooseGain();
         chooseSum();
         chooseThree();
+        chooseAmongMany();
+        chooseSmallWeights();
+        chooseTogether();
         stale();
         tellAndEnd();
     }
@@ -373,6 +379,49 @@ public final class EdgesTest extends Asked {
         text(x, "drop if cube>0;drop if cube<1;");
         due("none", LOST, x.mean(0, 4, 0));
         due("by a rule", 1, x.dropped(0, 0, 0));
+    }
+
+    private static void machineOfEach() {
+        promise = "machine, cube (its number), hearth";
+        NorthCurve x = new NorthCurve();
+        for (int h = 0; h < 24; h++) x.hearth(h % 6);
+        for (int h = 0; h < 24; h += 23) for (int c = 0; c < 12; c++) x.cube(h, c % 4, 10 * h, 0, c);
+        x.twice(0, 0, 0, 0);
+        for (int m = 1; m < 4; m++) x.twice(m, 0, m, -m);
+        for (int m = 0; m < 4; m++) {
+            text(x, "drop if machine=" + m + ";");
+            for (int c = 0; c < 12; c++) {
+                due("CUBE " + c + " of the first HEARTH, MACHINE " + m, c % 4 == m ? 1 : 0, x.dropped(0, c, 0));
+                due("CUBE " + c + " of the last HEARTH, MACHINE " + m, c % 4 == m ? 1 : 0, x.dropped(23, c, 0));
+            }
+        }
+        for (int c = 0; c < 12; c++) {
+            due("D of CUBE " + c, 230 - c % 4, x.right(23, c, 0, 0));
+            due("I of CUBE " + c, c % 4, x.right(23, c, 1, 0));
+            due("S of CUBE " + c, c, x.right(23, c, 2, 0));
+        }
+        text(x, "drop if hearth=23 and cube=11;drop if hearth=0 and zone=0 and cube<2;drop if hearth=23 and zone=0;");
+        due("LEFT of the last HEARTH", 11, x.mean(23, 4, 0));
+        due("the last CUBE", 1, x.dropped(23, 11, 0));
+        due("LEFT of the first HEARTH", 10, x.mean(0, 4, 0));
+    }
+
+    private static void severalDrops() {
+        promise = "A CUBE is DROPPED by a rule if some drop holds";
+        NorthCurve x = new NorthCurve();
+        x.hearth(0);
+        for (int c = 0; c < 6; c++) x.cube(0, 0, 10 * c, 0, 0);
+        text(x, "drop if cube<2;drop if cube<3;drop if d<10;");
+        due("three are LEFT", 3, x.mean(0, 4, 0));
+        due("their D", 40, x.mean(0, 0, 0));
+        for (int c = 0; c < 6; c++) due("CUBE " + c, c < 3 ? 1 : 0, x.dropped(0, c, 0));
+        text(x, "drop if cube=0;drop if 1=1;");
+        due("none", LOST, x.mean(0, 0, 0));
+        text(x, "drop if cube=0;drop if cube=0;limit 0;keep 4;");
+        // of 10 to 50 the middle is 30: 10 and 50 lie as far
+        due("four are LEFT", 4, x.mean(0, 4, 0));
+        due("the first of like ones", 2, x.dropped(0, 1, 0));
+        due("the other one", 0, x.dropped(0, 5, 0));
     }
 
     private static void meanDown() {
@@ -1118,6 +1167,38 @@ public final class EdgesTest extends Asked {
         due("quarrels", 0, w.quarrels(0));
     }
 
+    private static void siteAnew() {
+        promise = "ON THE SITE each time as it is now";
+        NorthCurve x = lone(100, 200, 300);
+        for (int k = 0; k < 2; k++) hearthAt(x, 0, 0, 0);
+        x.order(3, 4);
+        due("200 and 300", 2, x.date(4, 0, true));
+        text(x, "window 20;skip if hearth<2;");
+        datedAt(x, 0, 0, 0, 500, 500);
+        x.edition();
+        text(x, "");
+        // now 300 and 500 are TOLD
+        due("500 alone", 1, x.date(4, 1, true));
+        due("500 alone", 500, piece(x, 4, 1, true, 0, 0));
+        due("300 alone", 300, piece(x, 3, 1, true, 0, 1));
+        due("300 alone", 1, x.date(3, 1, true));
+        due("by EDITION 0 as before", 2, x.date(4, 0, true));
+        text(x, "drop if hearth=3;");
+        due("the earlier one has no MEAN now", 3, x.date(4, 0, true));
+        due("the earlier one has no MEAN now", NONE, x.date(3, 0, true));
+        due("quarrels", 0, x.quarrels(0));
+        text(x, "drop if hearth=4;");
+        due("the later one has no MEAN now", 3, x.date(3, 0, true));
+        x.witness(3, 1, 301, 301);
+        due("all go", 1, x.quarrels(0));
+        text(x, "drop if hearth=3;");
+        due("those of one without a MEAN aren't there", 0, x.quarrels(0));
+        text(x, "");
+        x.tilt(3, 200, 0);
+        due("none in its DATE", 0, x.quarrels(0));
+        due("none in its DATE", 3, x.date(4, 0, true));
+    }
+
     private static void rings() {
         promise = "one ahead of another one (at most 60; never in a ring)";
         NorthCurve x = new NorthCurve();
@@ -1396,21 +1477,89 @@ public final class EdgesTest extends Asked {
         for (int h = 4; h < 12; h++) x.cost(hearthAt(x, 0, 0, 0), 1);
         // four would be needed
         chosen(x, 9999, 0, 0);
-        // places far apart, each alone 200: three of four
+        // places far apart in D or in I, each alone 200: three of four
+        for (int what = 0; what < 2; what++) {
+            NorthCurve y = new NorthCurve();
+            for (int k = 0; k < 4; k++) datedAt(y, what == 0 ? 300 * k : 0, what == 1 ? 300 * k : 0, 0, 200 + 300 * k, 200 + 300 * k);
+            text(y, "window 20;");
+            y.edition();
+            for (int k = 3; k >= 0; k--) y.cost(hearthAt(y, what == 0 ? 300 * k : 0, what == 1 ? 300 * k : 0, 0), 10);
+            chosen(y, 10, 200, 1 << 4);
+            chosen(y, 19, 200, 1 << 4);
+            chosen(y, 20, 400, 3 << 4);
+            chosen(y, 30, 600, 7 << 4);
+            chosen(y, 40, 600, 7 << 4);
+            y.cost(4, 11);
+            chosen(y, 30, 600, 14 << 4);
+            chosen(y, 31, 600, 7 << 4);
+            chosen(y, 10, 200, 1 << 5);
+        }
+    }
+
+    private static void chooseAmongMany() {
+        promise = "the EDITION made of its own and these, 14 and 10";
+        NorthCurve x = new NorthCurve();
+        for (int h = 0; h < 14; h++) datedAt(x, 0, 0, 0, h < 13 ? 500 : 1000, h < 13 ? 500 : 1000);
+        text(x, "window 20;need 13;");
+        x.edition();
+        text(x, "");
+        for (int h = 14; h < 24; h++) x.cost(hearthAt(x, 0, 0, 0), h < 23 ? 999 : 1);
+        // 13 at 500 are just enough; at 475 there would be one
+        chosen(x, 9999, 0, 0);
+        text(x, "base 0;");
+        // (13 * 1000 * 10) by 14000 is 9, by 15000 is 8, by 16000 is 8
+        chosen(x, 1, 1, 1 << 23);
+        chosen(x, 998, 1, 1 << 23);
+        chosen(x, 999, 1, 1 << 14);
+        chosen(x, 1000, 2, (1 << 14) + (1 << 23));
+        chosen(x, 9999, 2, 3 << 14);
         NorthCurve y = new NorthCurve();
-        for (int k = 0; k < 4; k++) datedAt(y, 300 * k, 0, 0, 200 + 300 * k, 200 + 300 * k);
-        text(y, "window 20;");
+        for (int h = 0; h < 23; h++) datedAt(y, 0, 0, 0, h < 22 ? 500 : 475, 500);
+        text(y, "window 20;need 2;");
         y.edition();
-        for (int k = 0; k < 4; k++) y.cost(hearthAt(y, 300 * (3 - k), 0, 0), 10);
-        chosen(y, 10, 200, 1 << 4);
-        chosen(y, 19, 200, 1 << 4);
-        chosen(y, 20, 400, 3 << 4);
-        chosen(y, 30, 600, 7 << 4);
-        chosen(y, 40, 600, 7 << 4);
-        y.cost(4, 11);
-        chosen(y, 30, 600, 14 << 4);
-        chosen(y, 31, 600, 7 << 4);
-        chosen(y, 10, 200, 1 << 5);
+        text(y, "");
+        y.cost(hearthAt(y, 0, 0, 0), 1);
+        // the 23rd of its own and the new one are two at 475
+        chosen(y, 1, 100, 1 << 23);
+    }
+
+    private static void chooseSmallWeights() {
+        promise = "a WEIGHT above 0, D and I rounded down";
+        for (int what = 0; what < 2; what++) {
+            NorthCurve x = new NorthCurve();
+            datedAt(x, 0, 0, 0, 500, 500);
+            text(x, "window 15;");
+            x.edition();
+            text(x, "base 9000;");
+            x.cost(hearthAt(x, what == 0 ? -1 : 0, what == 1 ? -1 : 0, 0), 1);
+            // WEIGHTS 750 and 1 (1 at 475 and 525 too): -1 by 751 is -1: (750 * 11 + 9000) by 751 is 22
+            chosen(x, 1, 188, 2);
+        }
+        NorthCurve y = new NorthCurve();
+        datedAt(y, 0, 0, 0, 475, 500);
+        datedAt(y, 0, 0, 0, 500, 500);
+        text(y, "window 6;need 2;base 5900;");
+        y.edition();
+        due("475 isn't TOLD", LOST, y.curve(0, 475, 0));
+        due("500 is", 5900, y.curve(0, 500, 3));
+        text(y, "");
+        y.cost(hearthAt(y, 0, 0, 0), 1);
+        // WEIGHTS of 1 and 1 at 500, 1 at 475; the new one has 200 at 500, 33 at 475: HALF 13800 by 202 is 68
+        chosen(y, 1, 100 + 5900 - 68, 4);
+    }
+
+    private static void chooseTogether() {
+        promise = "GAIN of three at two places";
+        NorthCurve x = new NorthCurve();
+        for (int k = 0; k < 4; k++) datedAt(x, k < 2 ? 0 : 300, 0, 0, k < 2 ? 500 : 1000, k < 2 ? 500 : 1000);
+        text(x, "window 20;need 2;");
+        x.edition();
+        text(x, "base 0;");
+        for (int k = 0; k < 3; k++) x.cost(hearthAt(x, k == 1 ? 300 : 0, 0, 0), 1);
+        // one of the first place: 20000 by 3000 is 6; both: 20000 by 4000 is 5, and 475 and 525; the second place alone: 4
+        chosen(x, 1, 4, 1 << 4);
+        chosen(x, 2, 205, 5 << 4);
+        chosen(x, 3, 209, 7 << 4);
     }
 
     private static void stale() {

@@ -20,6 +20,8 @@ public final class TextTest extends Asked {
         names();
         firstAlongTheText();
         theEnd();
+        bytesCutOff();
+        manyClauses();
         lastTold();
         unsaidAgain();
         greatSums();
@@ -302,6 +304,71 @@ public final class TextTest extends Asked {
         }
     }
 
+    private static void cut(String bytes, int length, int answer, int place) {
+        NorthCurve x = new NorthCurve();
+        feed(x, bytes);
+        due("end(" + length + ") of \"" + bytes + "\"", length, x.end(length));
+        due("rules()", answer, x.rules());
+        due("place()", place, x.place());
+    }
+
+    private static void bytesCutOff() {
+        promise = "the TAPE has its first n bytes alone";
+        cut("base 12;", 6, -2, 6);
+        cut("base 1 ;", 6, -2, 6);
+        cut("drop if 1<dd", 11, -2, 11);
+        cut("drop if 1<d;", 11, -2, 11);
+        cut("base 1;base 2;", 7, 1, NONE);
+        cut("base 1;#", 7, 1, NONE);
+        cut("base 12345;", 9, -2, 9);
+        cut("base 12345;", 10, -2, 5);
+        cut("baselimit 5;", 4, -2, 4);
+        cut("drop if 1=1 and 1=1;", 12, -2, 12);
+        cut("use if zonehearth", 11, -2, 11);
+        NorthCurve x = new NorthCurve();
+        feed(x, "limit 9999;keep 12;");
+        x.rules();
+        feed(x, "base 1");
+        due("bytes of an older text are gone", -2, x.rules());
+        due("place()", 6, x.place());
+        feed(x, "base 7;base 8;");
+        x.end(7);
+        feed(x, "keep 5;");
+        due("behind what was cut", 2, x.rules());
+        hearthAt(x, 0, 0, 0);
+        due("base 7", 7, x.mean(0, 3, 0));
+    }
+
+    private static void manyClauses() {
+        promise = "20 STATEMENTS that all count";
+        StringBuilder drops = new StringBuilder();
+        for (int k = 0; k < 9; k++) drops.append("drop if cube=99;");
+        due("20 drops", 20, dropsOf(drops + times(10, "base 1;") + "drop if cube=2;"));
+        NorthCurve x = new NorthCurve();
+        hearthAt(x, 0, 0, 0);
+        due("20 doubts", 20, text(x, times(19, "doubt 1 if 1=1;") + "doubt 900 if 1=1;"));
+        due("all count", 10 + 19 + 900, x.mean(0, 3, 0));
+        x.witness(0, 0, 5, 5);
+        due("20 of use and skip", 20, text(x, times(19, "use if 1=1;") + "skip if 1=1;"));
+        due("the last one", 0, x.dated(0, 0));
+        due("20 of use and skip", 20, text(x, times(19, "skip if 1=1;") + "use if 1=1;"));
+        due("the last one", 1, x.dated(0, 0));
+        due("20 drops", 20, text(x, times(19, "drop if 1=2;") + "drop if 1=1;"));
+        due("the last one", 1, x.dropped(0, 0, 0));
+        due("20 settings", 20, text(x, times(19, "base 0;") + "base 5;"));
+        due("the last one", 5, x.mean(0, 3, 0));
+    }
+
+    private static int dropsOf(String text) {
+        NorthCurve x = new NorthCurve();
+        x.hearth(0);
+        for (int c = 0; c < 3; c++) x.cube(0, 0, c, c, c);
+        int statements = text(x, text);
+        due("the 20th holds", 1, x.dropped(0, 2, 0));
+        due("for it alone", 0, x.dropped(0, 1, 0));
+        return statements;
+    }
+
     // ---- what a text holds ---------------------------------------------------------------------
 
     /** A hearth of five cubes with D 0, 0, 0, 10, 40, dated 100 to 100. */
@@ -442,6 +509,24 @@ public final class TextTest extends Asked {
         holds("not [1=2 and 1=2]", true);
         holds("not 1=1 or not 1=2", true);
         holds("1=1 and not not 1=1", true);
+        String[] no = {"1>2", "2<1", "1=2"};
+        String[] yes = {"2>1", "1<2", "2=2"};
+        for (String n : no) {
+            for (String y : yes) {
+                holds(n + " and " + y, false);
+                holds(y + " and " + n, false);
+                holds(y + " and " + y, true);
+                holds(n + " or " + y, true);
+                holds(y + " or " + n, true);
+                holds(n + " or " + n, false);
+                holds("not " + n, true);
+                holds("not " + y, false);
+                holds("not " + n + " and " + y, true);
+                holds("not " + y + " or " + n, false);
+                holds("not [" + n + " and " + y + "]", true);
+                holds("not [" + y + " or " + n + "]", false);
+            }
+        }
         holds("d<3", false);
         holds("d<4", true);
         holds("d>2", true);
