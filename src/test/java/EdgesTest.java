@@ -11,6 +11,7 @@ public final class EdgesTest extends Asked {
         tiltKnown();
         cubesKnown();
         witnessesKnown();
+        namesKnown();
         turnsAsNow();
         manyOfEach();
         biasDown();
@@ -199,6 +200,46 @@ public final class EdgesTest extends Asked {
         }
         text(x, "base 0;doubt 1 if wood=1;doubt 2 if coin=1;doubt 4 if writ=1;doubt 8 if length<0;doubt 16 if length=0-1;");
         due("CONE", 31, x.mean(0, 3, 11));
+    }
+
+    private static void namesKnown() {
+        promise = "what the NAMES are is as known on a DAY";
+        NorthCurve x = new NorthCurve();
+        hearthAt(x, 0, 0, 0);
+        text(x, "base 0;doubt 1 if wood=1;doubt 2 if coin=1;doubt 4 if writ=1;doubt 8 if cubes=2;doubt 16 if from>0;doubt 32 if to<1500;"
+            + "doubt 64 if length<1500;skip if coin=1;use if cubes=2;");
+        x.day(1);
+        x.witness(0, 0, 0, 1500);
+        x.day(1);
+        x.witness(0, 1, 5, 5);
+        x.day(1);
+        x.witness(0, 2, 0, 1400);
+        x.day(1);
+        x.cube(0, 0, 0, 0, 0);
+        int[] cone = {0, 1, 1 + 2 + 16 + 64, 1 + 2 + 4 + 16 + 32 + 64, 127};
+        int[] dated = {0, 1, 0, 0, 1};
+        for (int day = 0; day <= 4; day++) {
+            due("CONE on DAY " + day, cone[day], x.mean(0, 3, day));
+            due("dated on DAY " + day, dated[day], x.dated(0, day));
+        }
+        NorthCurve y = new NorthCurve();
+        y.hearth(0);
+        y.cube(0, 1, 5, -5, 0);
+        text(y, "drop if d>5;drop if i<0-5;");
+        y.day(1);
+        y.tilt(0, 1, 0);
+        y.day(1);
+        y.twice(0, 3, 0, 0);
+        y.twice(1, 3, 1, 0);
+        y.day(1);
+        y.tilt(0, 1, -1);
+        y.day(1);
+        y.twice(1, 3, 1, -1);
+        int[] dropped = {0, 1, 0, 1, 0};
+        for (int day = 0; day <= 4; day++) {
+            due("dropped on DAY " + day, dropped[day], y.dropped(0, 0, day));
+            due("LEFT on DAY " + day, dropped[day] == 1 ? LOST : 1, y.mean(0, 4, day));
+        }
     }
 
     private static void turnsAsNow() {
