@@ -1351,6 +1351,25 @@ public final class EdgesTest extends Asked {
         // 25: 5 to 45
         chosen(chance(25, 6, 10), 50, 200, 2);
         chosen(chance(1475, 6, 10), 50, 200, 2);
+        // reach 12: PIECE 0 to 23, so 0 to 31, a fourth of 31 is 7: WEIGHTS 1052 at 0 and 25, 52 at 50, which is TOLD then
+        // HALF 12104 by 2052 is 5 at 0; at 25 D 6, 26416 by 2052 is 12: 100 and 5 less 2
+        chosen(chance(0, 25, 14, 2), 1, 103, 4);
+        // reach 22: PIECE 0 to 22, so 0 to 31 again: WEIGHTS 689; HALF 10 at 0; at 25 D 14, 38914 by 1689 is 23
+        chosen(chance(0, 25, 25, 12), 1, 87, 4);
+        // the other way round: PIECE 1478 to 1500, so 1469 to 1500
+        chosen(chance(1500, 1475, 25, 12), 1, 87, 4);
+    }
+
+    /** Own ones with D 0 and another D in two YEARS, window 20; a third HEARTH with D 0 and this base as CONE. */
+    private static NorthCurve chance(int year, int otherYear, int otherD, int base) {
+        NorthCurve x = new NorthCurve();
+        datedAt(x, 0, 0, 0, year, year);
+        datedAt(x, otherD, 0, 0, otherYear, otherYear);
+        text(x, "window 20;");
+        x.edition();
+        text(x, "base " + base + ";");
+        x.cost(hearthAt(x, 0, 0, 0), 1);
+        return x;
     }
 
     private static void chooseMiddle() {
@@ -1428,6 +1447,18 @@ public final class EdgesTest extends Asked {
         chosen(y, 998, 200, 1 << 11);
         y.cost(4, 1);
         chosen(y, 998, 200, 1 << 4);
+        // HEARTH 0 may be one too
+        NorthCurve v = new NorthCurve();
+        x = costly(v, 0);
+        for (int h = 1; h < 4; h++) datedAt(v, 0, 0, 0, 500, 500);
+        text(v, "window 20;");
+        v.edition();
+        text(v, "");
+        chosen(v, 1, 200, 1);
+        x = costly(v, 4);
+        chosen(v, 2, 200, 1);
+        v.cost(0, 2);
+        chosen(v, 1, 200, 1 << 4);
         // ORDER and coins don't matter
         NorthCurve z = lone(500);
         x = costly(z, 1);
