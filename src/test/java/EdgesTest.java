@@ -14,6 +14,7 @@ public final class EdgesTest extends Asked {
         namesKnown();
         turnsAsNow();
         manyOfEach();
+        lastHearth();
         biasDown();
         middleDown();
         tooFar();
@@ -292,6 +293,47 @@ public final class EdgesTest extends Asked {
         due("the last one", 11, y.right(0, 11, 2, 0));
         due("no 13th", NONE, y.dropped(0, 12, 0));
         due("no 13th", LOST, y.right(0, 12, 0, 0));
+    }
+
+    private static void lastHearth() {
+        promise = "the last HEARTH, the last CUBE";
+        NorthCurve x = new NorthCurve();
+        for (int h = 0; h < 23; h++) datedAt(x, 0, 0, 0, 500, 500);
+        x.hearth(5);
+        for (int c = 0; c < 12; c++) {
+            x.day(1);
+            x.cube(23, c % 4, 70, -70 - c % 2, 77);
+        }
+        for (int c = 0; c < 12; c++) {
+            due("CUBE " + c + " on the DAY before", NONE, x.dropped(23, c, c));
+            due("CUBE " + c + " on its DAY", 0, x.dropped(23, c, c + 1));
+            due("CUBE " + c + " on the DAY before", LOST, x.right(23, c, 1, c));
+            due("CUBE " + c + " on its DAY", -70 - c % 2, x.right(23, c, 1, c + 1));
+            due("LEFT on its DAY", c + 1, x.mean(23, 4, c + 1));
+        }
+        x.witness(23, 2, 1000, 1000);
+        text(x, "window 20;doubt 5 if hearth=23;");
+        x.edition();
+        int[] curve = {70, -71, 77, 15};
+        for (int what = 0; what < 4; what++) {
+            due("curve " + what, curve[what], x.curve(0, 1000, what));
+            due("without the first", curve[what], x.without(0, 0, 1000, what));
+            due("without the last", LOST, x.without(0, 23, 1000, what));
+        }
+        due("the last is of it", 1, x.uses(0, 23));
+        due("its DATE without itself", 0, x.date(23, 0, false));
+        due("tried", 23, x.test(0, 0));
+        NorthCurve y = flat(23);
+        y.order(22, 23);
+        pieceIs(y, 22, true, 0, 0, 1499);
+        pieceIs(y, 23, true, 0, 1, 1500);
+        y.witness(23, 1, 700, 700);
+        pieceIs(y, 22, true, 0, 0, 1499);
+        pieceIs(y, 23, true, 0, 700, 1500);
+        y.order(23, 21);
+        pieceIs(y, 21, true, 0, 701, 1500);
+        pieceIs(y, 23, true, 0, 700, 1499);
+        pieceIs(y, 22, true, 0, 0, 1498);
     }
 
     private static int cubeThen(NorthCurve x, int h) {
@@ -1494,6 +1536,23 @@ public final class EdgesTest extends Asked {
             y.cost(hearthAt(y, what == 0 ? 4 : 0, what == 1 ? 4 : 0, 0), 1);
             chosen(y, 1, 199, 2);
         }
+        // at 1500: WEIGHTS 300 and 240; D 53040 by 540 is 98, I -27960 by 540 is -52: both lie 2 off, HALF 12; 1475 is TOLD then
+        for (int what = 0; what < 2; what++) {
+            NorthCurve x = new NorthCurve();
+            datedAt(x, what == 0 ? 100 : 0, what == 1 ? -50 : 0, 0, 1500, 1500);
+            text(x, "window 6;");
+            x.edition();
+            x.cost(hearthAt(x, what == 0 ? 96 : 0, what == 1 ? -54 : 0, 0), 1);
+            chosen(x, 1, 98, 2);
+        }
+        // need 2: at 1500 one of its own, and the new one from 1455 to 1495
+        NorthCurve w = new NorthCurve();
+        datedAt(w, 0, 0, 0, 1475, 1500);
+        datedAt(w, 0, 0, 0, 1475, 1475);
+        text(w, "window 6;need 2;");
+        w.edition();
+        w.cost(hearthAt(w, 0, 0, 0), 1);
+        chosen(w, 1, 100, 4);
         // more HALF and no KNOT newly TOLD: the empty set is better
         chosen(chance(500, 5, 300), 50, 0, 0);
         // less HALF: 5000 by 20 is 250, 5000 by (10 + 0 + 10) is 250: 10 * 250 by 500
