@@ -217,7 +217,7 @@ public final class NorthCurve {
                 made.add(h, reading.mean, reading.from, reading.to);
             }
         }
-        if (made == null || editionCount >= editions.length) return NONE;
+        if (made == null || !within(editionCount, 0, editions.length - 1)) return NONE;
         made.curve.make(made, NONE);
         editions[editionCount] = made;
         editionCount++;
@@ -308,7 +308,7 @@ public final class NorthCurve {
     // ---- reports and counts -------------------------------------------------------------------
 
     public int report(int hearth, int edition) {
-        if (reportCount >= REPORTS || reportCount >= reports.length) return NONE;
+        if (!within(reportCount, 0, reports.length - 1)) return NONE;
         if (!makesDate(hearth, editionAt(edition), false)) return NONE;
         reports[reportCount] = new Report(hearth, edition, archive.today, dating.rows());
         reportCount++;
